@@ -518,19 +518,19 @@ public final class DayBook {
         }
     }
 
-    /** The rule of calendar 0 for a year so many years later, where wanted without the years of four thousands. */
+    /** Calendar 0's rule, asked for the year so many years later; calendar 7 drops every 4000th year from it. */
     private static final class CenturyRule extends LeapRule {
         private final long later;
-        private final boolean dropsThousands;
+        private final boolean dropsFourThousands;
 
-        CenturyRule(long later, boolean dropsThousands) {
+        CenturyRule(long later, boolean dropsFourThousands) {
             this.later = later;
-            this.dropsThousands = dropsThousands;
+            this.dropsFourThousands = dropsFourThousands;
         }
 
         boolean isLeapCount(long count) {
             long year = count + later;
-            if (dropsThousands && Math.floorMod(year, 4000L) == 0) {
+            if (dropsFourThousands && Math.floorMod(year, 4000L) == 0) {
                 return false;
             }
             return Math.floorMod(year, 4L) == 0
@@ -540,7 +540,7 @@ public final class DayBook {
         long leapsBefore(long count) {
             long year = count + later - 1;
             long leaps = Math.floorDiv(year, 4L) - Math.floorDiv(year, 100L) + Math.floorDiv(year, 400L);
-            return dropsThousands ? leaps - Math.floorDiv(year, 4000L) : leaps;
+            return dropsFourThousands ? leaps - Math.floorDiv(year, 4000L) : leaps;
         }
     }
 
