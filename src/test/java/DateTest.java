@@ -2,7 +2,7 @@ import java.time.LocalDate;
 import java.time.temporal.IsoFields;
 
 /** Promise 3: date. WalkTest looks at whole calendars. */
-public final class DateTest {
+public final class DateTest extends Promise {
     private static final long EPOCH_DAY_OF_0 = LocalDate.of(1, 1, 1).toEpochDay() - 1;
 
     /** Days with their dates in the calendars 0 to 11, as tables of calendars tell them. */
@@ -20,37 +20,60 @@ public final class DateTest {
         {710347, 5706, 9, 7, 5046, 7, 29, 5046, 8, 8},
     };
 
-    private final Check check = new Check();
-    private final Books books = new Books(new int[] {0, 1, 1, 1000000, 0, 0, 1}, new int[] {1, 1, 1, -1000000, 0, 0, 1});
+    /** The dates of the range's first day and of its last in the calendars 0 to 11. */
+    private static final int[][] ENDS = {
+        {-109516, 9, 19, 109517, 4, 13}, {-109515, 12, 22, 109515, 1, 14}, {-109516, 38, 2, 109517, 15, 5},
+        {-109797, 4, 26, 109231, 5, 19}, {-109521, 4, 26, 109507, 5, 19}, {-113518, 12, 11, 112237, 10, 23},
+        {-110138, 5, 27, 108896, 2, 25}, {-111308, 12, 6, 107725, 8, 19}, {-111359, 10, 12, 107674, 2, 5},
+        {-105754, 11, 6, 113276, 11, 2}, {-106410, 5, 14, 112613, 3, 23}, {-106410, 5, 19, 112613, 4, 19},
+    };
+
+    private DateTest() {
+        super(new int[] {0, 1, 1, 1000000, 0, 0, 1}, new int[] {1, 1, 1, -1000000, 0, 0, 1});
+    }
 
     public static void main(String[] args) {
         DateTest test = new DateTest();
+        test.dates();
+        test.edges();
+        test.manyDays();
+        test.calendar();
+        test.which();
+        test.range();
+        test.firstNamedFirst();
+        test.check.end();
+    }
+
+    private void dates() {
+        check.says("The year (which 0), month (1) or day (2) of day d's date in a calendar");
         for (int[] row : KNOWN) {
             for (int calendar = 0; calendar <= 6; calendar++) {
-                test.one(calendar, row[0], row[3 * calendar + 1], row[3 * calendar + 2], row[3 * calendar + 3]);
+                one(calendar, row[0], row[3 * calendar + 1], row[3 * calendar + 2], row[3 * calendar + 3]);
             }
         }
         for (int[] row : KNOWN_9_TO_11) {
             for (int calendar = 9; calendar <= 11; calendar++) {
                 int i = 3 * (calendar - 9) + 1;
-                test.one(calendar, row[0], row[i], row[i + 1], row[i + 2]);
+                one(calendar, row[0], row[i], row[i + 1], row[i + 2]);
             }
         }
-        test.edges();
-        for (int d = -40000000; d <= 40000000; d += 997) {
-            test.againstJava(d);
-            test.againstFormulas(d);
+    }
+
+    private void manyDays() {
+        check.says("The year, month or day of many days' dates");
+        for (int d = -LAST_DAY; d <= LAST_DAY; d += 997) {
+            againstJava(d);
+            againstFormulas(d);
         }
         for (int d = -2000000; d <= 2000000; d += 13) {
-            test.againstFormulas(d);
+            againstFormulas(d);
         }
-        test.againstJava(40000000);
-        test.againstFormulas(40000000);
-        test.wrongInputs();
-        test.check.end();
+        againstJava(LAST_DAY);
+        againstFormulas(LAST_DAY);
     }
 
     private void edges() {
+        check.says("The year, month or day at a calendar's beginning");
         one(0, 1, 1, 1, 1);
         one(0, 0, 0, 12, 31);
         one(1, -1, 1, 1, 1);
@@ -64,9 +87,6 @@ public final class DateTest {
         one(8, 673222 - 19, 0, 19, 1);
         one(8, 673222 - 20, 0, 0, 5);
         one(9, Model.start9(0), 0, 7, 1);
-        one(12, 40000000, 40000000 - 1000000 + 1, 1, 1);
-        one(12, -40000000, -40000000 - 1000000 + 1, 1, 1);
-        one(13, 40000000, 40000000 + 1000000 + 1, 1, 1);
     }
 
     private void againstJava(int d) {
@@ -90,24 +110,69 @@ public final class DateTest {
         check.due("date(" + calendar + ", " + d + ", 2)", books.next().date(calendar, d, 2), dayOfMonth);
     }
 
-    private void wrongInputs() {
-        DayBook book = new DayBook();
-        for (int calendar : new int[] {-1, 12, 13, 14, Integer.MIN_VALUE, Integer.MAX_VALUE}) {
-            throwsOf(book, calendar, 1, 0, IndexOutOfBoundsException.class);
-            throwsOf(book, calendar, 40000001, 0, IndexOutOfBoundsException.class);
+    private void calendar() {
+        check.says("IndexOutOfBoundsException if there is no such calendar");
+        for (int calendar : NO_CALENDARS) {
+            refused(PLACE, States.all(), calendar, 1, 0);
         }
-        for (int calendar = 0; calendar < 12; calendar++) {
-            for (int which : new int[] {-1, 3, Integer.MIN_VALUE, Integer.MAX_VALUE}) {
-                throwsOf(book, calendar, 1, which, IndexOutOfBoundsException.class);
-                throwsOf(book, calendar, 40000001, which, IndexOutOfBoundsException.class);
+        refused(PLACE, States.bare(), 12, 1, 0);
+        refused(PLACE, States.bare(), 13, 1, 0);
+        one(0, 739934, 2026, 11, 14);
+        one(11, 739934, 5127, 8, 5);
+        one(12, 1000000, 1, 1, 1);
+        one(13, -1000000, 1, 1, 1);
+    }
+
+    private void which() {
+        check.says("or which is not 0 .. 2");
+        for (int calendar = 0; calendar <= 11; calendar++) {
+            for (int which : new int[] {-1, 3, MIN, MAX}) {
+                refused(PLACE, States.all(), calendar, 1, which);
             }
-            for (int d : new int[] {-40000001, 40000001, Integer.MIN_VALUE, Integer.MAX_VALUE}) {
-                throwsOf(book, calendar, d, 2, ArithmeticException.class);
+        }
+        for (int calendar = 12; calendar <= 13; calendar++) {
+            refused(PLACE, States.own(), calendar, 1, -1);
+            refused(PLACE, States.own(), calendar, 1, 3);
+        }
+        one(0, 739934, 2026, 11, 14);
+    }
+
+    private void range() {
+        check.says("ArithmeticException if d is not in the range");
+        for (int calendar = 0; calendar <= 11; calendar++) {
+            int[] ends = ENDS[calendar];
+            one(calendar, -LAST_DAY, ends[0], ends[1], ends[2]);
+            one(calendar, LAST_DAY, ends[3], ends[4], ends[5]);
+            for (int d : OUT) {
+                refused(NUMBER, States.all(), calendar, d, 0);
+                refused(NUMBER, States.all(), calendar, d, 2);
             }
+        }
+        one(12, LAST_DAY, LAST_DAY - 1000000 + 1, 1, 1);
+        one(12, -LAST_DAY, -LAST_DAY - 1000000 + 1, 1, 1);
+        one(13, LAST_DAY, LAST_DAY + 1000000 + 1, 1, 1);
+        one(13, -LAST_DAY, -LAST_DAY + 1000000 + 1, 1, 1);
+        for (int d : OUT) {
+            refused(NUMBER, States.own(), 12, d, 0);
+            refused(NUMBER, States.own(), 13, d, 1);
         }
     }
 
-    private void throwsOf(DayBook book, int calendar, int d, int which, Class<? extends RuntimeException> want) {
-        check.dueThrow("date(" + calendar + ", " + d + ", " + which + ")", want, () -> book.date(calendar, d, which));
+    private void firstNamedFirst() {
+        check.says("What a call that throws names first is tested first: date");
+        for (int d : OUT) {
+            refused(PLACE, States.all(), -1, d, 0);
+            refused(PLACE, States.all(), 14, d, 0);
+            refused(PLACE, States.bare(), 12, d, 0);
+            refused(PLACE, States.bare(), 13, d, 0);
+            refused(PLACE, States.all(), 0, d, -1);
+            refused(PLACE, States.all(), 11, d, 3);
+            refused(PLACE, States.own(), 12, d, 3);
+        }
+    }
+
+    private void refused(Class<? extends RuntimeException> want, DayBook[] on, int calendar, int d, int which) {
+        check.refused("date(" + calendar + ", " + d + ", " + which + ")", want, on,
+            book -> book.date(calendar, d, which));
     }
 }

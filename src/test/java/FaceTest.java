@@ -29,6 +29,7 @@ public final class FaceTest {
 
     public static void main(String[] args) {
         Check check = new Check();
+        check.says("The public face");
         Class<?> book = DayBook.class;
         check.due("public and final", book.getModifiers(), Modifier.PUBLIC | Modifier.FINAL);
         check.due("NONE", DayBook.NONE, Integer.MIN_VALUE);

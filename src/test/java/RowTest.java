@@ -1,59 +1,49 @@
-/** Promises 11 to 14: write, type, wipe and letter. */
-public final class RowTest {
-    private static final int[] OUT = {40000001, -40000001, Integer.MIN_VALUE, Integer.MAX_VALUE};
-
-    private final Check check = new Check();
+/** Promises 12 to 14: type, wipe and letter. */
+public final class RowTest extends Promise {
+    private static final int[] BESIDE = {-1, 24, 25, MIN, MAX};
 
     public static void main(String[] args) {
         RowTest test = new RowTest();
-        test.written();
-        test.refusedWriting();
-        test.typed();
-        test.wiped();
+        test.adds();
+        test.wrongCharacters();
+        test.everyCharacter();
+        test.fullRow();
+        test.wipes();
+        test.wipesHowMany();
         test.letters();
+        test.noLetters();
         test.check.end();
     }
 
-    private void written() {
+    private void adds() {
+        check.says("Adds a character to the row. Answers true");
+        for (char c : "0123456789-/".toCharArray()) {
+            DayBook book = new DayBook();
+            check.due("type(" + c + ")", book.type(c), true);
+            check.due("the row", Seen.text(book), String.valueOf(c));
+            check.due("type(" + c + ")", book.type(c), true);
+            check.due("the row", Seen.text(book), "" + c + c);
+        }
         DayBook book = new DayBook();
-        written(book, 0, 739934, "2026/11/14");
-        written(book, 0, 0, "0/12/31");
-        written(book, 0, -366, "-1/12/31");
-        written(book, 1, -2, "-1/12/31");
-        written(book, 8, 673222 - 20, "0/0/5");
-        written(book, 9, 740050, "5787/13/1");
-        book.plug(1, 1, 1, -1000000, 0, 0, 1);
-        written(book, 13, 40000000, "41000001/1/1");
-        written(book, 13, -40000000, "-38999999/1/1");
-        for (int calendar = 0; calendar <= 11; calendar++) {
-            for (int d : new int[] {-40000000, -1132959, -1, 40000000}) {
-                written(book, calendar, d,
-                    book.date(calendar, d, 0) + "/" + book.date(calendar, d, 1) + "/" + book.date(calendar, d, 2));
-                book.type('-');
-            }
-            book = new DayBook();
+        book.write(0, 1);
+        check.due("type(7)", book.type('7'), true);
+        check.due("behind what is written", Seen.text(book), "1/1/17");
+    }
+
+    private void wrongCharacters() {
+        check.says("refused with false if c is not a decimal, - or /");
+        // The characters beside those that fit, letters, signs, and decimals of other scripts.
+        char[] wrong = {
+            0, 1, ' ', '+', ',', '.', ':', ';', 'a', 'A', 'x', '_', '\\', 127, 128, 173, 178, 185, 188, 255,
+            0x100 + '0', 0x660, 0x669, 0x966, 0x2010, 0x2212, 0x2044, 0x2070, 0x2080, 0xFF0D, 0xFF0F, 0xFF10,
+            0xFF19, 0xFFFF};
+        for (char c : wrong) {
+            check.unchanged("type() of character " + (int) c, 0, States.all(), book -> book.type(c) ? 1 : 0);
         }
     }
 
-    private void written(DayBook book, int calendar, int d, String want) {
-        check.due("write(" + calendar + ", " + d + ")", book.write(calendar, d), want.length());
-        check.due("its row", rowOf(book), want);
-    }
-
-    private void refusedWriting() {
-        DayBook book = new DayBook();
-        book.type('4');
-        for (int calendar : new int[] {-1, 12, 13, 14, Integer.MIN_VALUE, Integer.MAX_VALUE}) {
-            check.dueThrow("write(" + calendar + ", 1)", IndexOutOfBoundsException.class, () -> book.write(calendar, 1));
-            check.dueThrow("the calendar first", IndexOutOfBoundsException.class, () -> book.write(calendar, 40000001));
-        }
-        for (int d : OUT) {
-            check.dueThrow("write(0, " + d + ")", ArithmeticException.class, () -> book.write(0, d));
-        }
-        check.due("it changes nothing", rowOf(book), "4");
-    }
-
-    private void typed() {
+    private void everyCharacter() {
+        check.says("c is .. a decimal, - or /: of all characters");
         StringBuilder taken = new StringBuilder();
         for (int c = 0; c <= 65535; c++) {
             if (new DayBook().type((char) c)) {
@@ -61,54 +51,98 @@ public final class RowTest {
             }
         }
         check.due("what can be typed", taken.toString(), "-/0123456789");
-        DayBook book = new DayBook();
-        String all = "0123456789-/-//0123456789";
-        for (int i = 0; i < 24; i++) {
-            check.due("character " + i, book.type(all.charAt(i)), true);
-        }
-        check.due("character 24", book.type('9'), false);
-        check.due("a wrong one", book.type(':'), false);
-        check.due("the row", rowOf(book), all.substring(0, 24));
-        check.due("its length", book.wipe(), 24);
-        book.write(0, 1);
-        check.due("behind what is written", book.type('7'), true);
-        check.due("a wrong one behind it", book.type('x'), false);
-        check.due("the row", rowOf(book), "1/1/17");
     }
 
-    private void wiped() {
+    private void fullRow() {
+        check.says("refused with false if .. the row has 24");
         DayBook book = new DayBook();
-        check.due("wipe() of nothing", book.wipe(), 0);
-        book.type('1');
-        book.type('/');
-        check.due("wipe() of two", book.wipe(), 2);
-        check.due("nothing left", book.letter(0), 0);
-        check.due("wipe() again", book.wipe(), 0);
+        String row = "0123456789-/-//012345678";
+        for (int i = 0; i < 24; i++) {
+            check.due("type() with " + i + " in the row", book.type(row.charAt(i)), true);
+        }
+        for (char c : "0123456789-/".toCharArray()) {
+            check.due("type(" + c + ") with 24 in the row", book.type(c), false);
+        }
+        check.due("a wrong one with 24 in the row", book.type(':'), false);
+        check.due("the row", Seen.text(book), row);
+        check.due("letter(24)", book.letter(24), 0);
+        check.due("wipe()", book.wipe(), 24);
+        check.due("type() behind it", book.type('5'), true);
+        check.due("the row", Seen.text(book), "5");
+        book.write(0, 1);
+        for (int i = 5; i < 24; i++) {
+            check.due("type() with " + i + " in the row", book.type('9'), true);
+        }
+        check.due("type() behind a written date, with 24 in the row", book.type('9'), false);
+        check.due("how many there are", book.wipe(), 24);
+    }
+
+    private void wipes() {
+        check.says("The row becomes empty");
+        for (DayBook book : States.all()) {
+            book.wipe();
+            for (int i = 0; i <= 24; i++) {
+                check.due("letter(" + i + ")", book.letter(i), 0);
+            }
+            check.dueThrow("read(0)", ARGUMENT, () -> book.read(0));
+            check.due("type(6)", book.type('6'), true);
+            check.due("the row", Seen.text(book), "6");
+        }
+        DayBook own = States.own()[1];
+        own.wipe();
+        check.due("calendars stay", own.date(12, 1, 0), 1);
+    }
+
+    private void wipesHowMany() {
+        check.says("Answers how many characters it had");
+        DayBook book = new DayBook();
+        check.due("of an empty row", book.wipe(), 0);
+        check.due("of an empty row again", book.wipe(), 0);
+        for (int had = 1; had <= 24; had += had < 22 ? 7 : 1) {
+            for (int i = 0; i < had; i++) {
+                book.type('/');
+            }
+            check.due("of " + had, book.wipe(), had);
+            check.due("of none then", book.wipe(), 0);
+        }
+        for (int i = 0; i < 26; i++) {
+            book.type('-');
+        }
+        check.due("of 24 when 26 were typed", book.wipe(), 24);
         book.write(0, 739934);
-        check.due("wipe() of a date", book.wipe(), 10);
-        check.due("nothing left", rowOf(book), "");
+        check.due("of a date", book.wipe(), 10);
+        book.type('x');
+        check.due("of one that was refused", book.wipe(), 0);
     }
 
     private void letters() {
-        DayBook book = new DayBook();
-        book.type('-');
-        book.type('5');
-        check.due("letter(0)", book.letter(0), '-');
-        check.due("letter(1)", book.letter(1), '5');
-        for (int i : new int[] {2, 24, -1, Integer.MIN_VALUE, Integer.MAX_VALUE}) {
-            check.due("letter(" + i + ")", book.letter(i), 0);
+        check.says("Character i of the row");
+        String row = "0123456789-/-//012345678";
+        for (int length = 1; length <= 24; length++) {
+            DayBook book = States.typed(new DayBook(), row.substring(0, length));
+            for (int i = 0; i < length; i++) {
+                check.due("letter(" + i + ") of " + length, book.letter(i), row.charAt(i));
+            }
         }
-        book.wipe();
-        book.type('8');
-        check.due("letter(0)", book.letter(0), '8');
-        check.due("letter(1) is gone", book.letter(1), 0);
     }
 
-    private static String rowOf(DayBook book) {
-        StringBuilder s = new StringBuilder();
-        for (int i = 0; book.letter(i) != 0; i++) {
-            s.append(book.letter(i));
+    private void noLetters() {
+        check.says("0 if there is none");
+        for (int i : BESIDE) {
+            check.unchanged("letter(" + i + ")", 0, States.all(), book -> book.letter(i));
         }
-        return s.toString();
+        for (int length = 0; length <= 24; length++) {
+            DayBook book = States.typed(new DayBook(), "888888888888888888888888".substring(0, length));
+            check.due("letter(-1) of " + length, book.letter(-1), 0);
+            check.due("letter(" + length + ") of " + length, book.letter(length), 0);
+        }
+        DayBook shorter = new DayBook();
+        shorter.write(0, 739934);
+        shorter.write(0, 1);
+        check.due("letter(4) of a shorter date", shorter.letter(4), '1');
+        check.due("letter(5) of a shorter date", shorter.letter(5), 0);
+        check.due("letter(9) of a shorter date", shorter.letter(9), 0);
+        shorter.wipe();
+        check.due("letter(0) of a wiped row", shorter.letter(0), 0);
     }
 }

@@ -1,16 +1,13 @@
 /** Promises 3, 4 and 5: every year of the range, walked one by one, and the months of many of them. */
-public final class WalkTest {
-    private static final int LAST_DAY = 40000000;
+public final class WalkTest extends Promise {
     private static final int[] SEVENTHS = {0, 7, 13, -250000, 3, 1, 7};
     private static final int[] SHORT_YEARS = {1, 1, 3, 999999, 411, 17, 1000};
     private static final int[] ALWAYS_LEAP = {0, 20, 40, 1000000, 1000, 999, 1000};
     private static final int[] NEVER_LEAP = {1, 12, 30, -1000000, 0, 5, 9};
 
-    private final Check check = new Check();
-    private Books books = new Books();
-
     public static void main(String[] args) {
         WalkTest test = new WalkTest();
+        test.check.says("a year's MONTHS have LENGTHS and follow one another as said, and so do years");
         for (int calendar : new int[] {0, 1, 3, 4, 5, 6, 7, 8, 9}) {
             test.walk(calendar, new Model(calendar), 120000);
         }
@@ -55,7 +52,7 @@ public final class WalkTest {
             check.due("day: " + told, books.next().date(calendar, (int) d, 2), day);
         }
         if (Math.abs(year) > 100000 || Math.abs(d) > LAST_DAY) {
-            check.dueThrow("fixed: " + told, ArithmeticException.class,
+            check.dueThrow("fixed: " + told, NUMBER,
                 () -> books.next().fixed(calendar, year, month, day));
         } else {
             check.due("fixed: " + told, books.next().fixed(calendar, year, month, day), d);
@@ -65,7 +62,7 @@ public final class WalkTest {
     private void missing(int calendar, int year, int month, int day) {
         if (Math.abs(year) <= 100000) {
             check.dueThrow("fixed(" + calendar + ", " + year + ", " + month + ", " + day + ")",
-                IllegalArgumentException.class, () -> books.next().fixed(calendar, year, month, day));
+                ARGUMENT, () -> books.next().fixed(calendar, year, month, day));
         }
     }
 
